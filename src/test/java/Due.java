@@ -1,13 +1,19 @@
 /** Holds answers against those that are due; a test ends with exit code 1 if one was not as due. */
 final class Due {
+    private String sentence = "";
     private int checks = 0;
     private int wrong = 0;
+
+    /** What follows tests these words of the document; they are told with each wrong answer. */
+    void says(String words) {
+        sentence = "[" + words + "] ";
+    }
 
     void is(String call, long got, long want) {
         checks++;
         if (got != want) {
             wrong++;
-            System.out.println(call + " answered " + got + ", due is " + want);
+            System.out.println(sentence + call + " answered " + got + ", due is " + want);
         }
     }
 
