@@ -37,6 +37,8 @@ public final class AbendEdgesTest {
         loseNoneByRetry(due);
         loseAllUnhandled(due);
         loseNoneOffTheWay(due);
+        lostExitsAreAskedNoMore(due);
+        lostExitsStayLostBehindNewOnes(due);
         orderBeforeAnyAbend(due);
         orderAtItsEnds(due);
         orderOfNoneAsked(due);
@@ -428,6 +430,28 @@ public final class AbendEdgesTest {
         due.is("abend(3, 5)", x.abend(3, 5), -1);
         exitsAre(due, x, 0, 0, 0, 1, 1);
         orderIs(due, x, 3, 2, 1);
+    }
+
+    private static void lostExitsAreAskedNoMore(Due due) {
+        due.says("lose their exits");
+        AbendRows x = chain(2);
+        x.exit(1, 1, false);
+        x.exit(2, 0, false);
+        due.is("abend(2, 5), level 2 loses exit 2", x.abend(2, 5), 1);
+        orderIs(due, x, 2, 1);
+        due.is("abend(2, 5)", x.abend(2, 5), 1);
+        orderIs(due, x, 1);
+    }
+
+    private static void lostExitsStayLostBehindNewOnes(Due due) {
+        due.says("lose their exits");
+        AbendRows x = chain(1);
+        x.exit(1, 0, false);
+        due.is("abend(1, 5), level 1 loses exit 1", x.abend(1, 5), -1);
+        x.exit(1, 0, false);
+        exitsAre(due, x, 1);
+        due.is("abend(1, 5)", x.abend(1, 5), -1);
+        orderIs(due, x, 2);
     }
 
     private static void orderBeforeAnyAbend(Due due) {

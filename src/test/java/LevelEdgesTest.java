@@ -324,6 +324,7 @@ public final class LevelEdgesTest {
         exits(x, 1, 3);
         due.is("abend(1, 5)", x.abend(1, 5), -1);
         due.is("cancel(1)", x.cancel(1), -1);
+        due.is("told(1, 0)", x.told(1, 0), 0);
     }
 
     private static void cancelIsOfOneLevel(Due due) {

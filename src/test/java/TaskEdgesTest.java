@@ -45,6 +45,7 @@ public final class TaskEdgesTest {
         loopAddsUp(due);
         loopOfNoSteps(due);
         loopBeginsAnew(due);
+        loopGoesOnOverARestart(due);
         loopOfTheLongest(due);
         loopWouldWrapRound(due);
         loopBelowZero(due);
@@ -508,6 +509,14 @@ public final class TaskEdgesTest {
         due.is("loop(1, 1000), none is left over", x.loop(1, 1000), 0);
         due.is("loop(1, 1)", x.loop(1, 1), 71);
         due.is("loop(1, 1001)", x.loop(1, 1001), 71);
+    }
+
+    private static void loopGoesOnOverARestart(Due due) {
+        due.says("with those since the latest 71 (or the beginning)");
+        AbendRows x = new AbendRows();
+        due.is("loop(1, 1000)", x.loop(1, 1000), 0);
+        due.is("restart(1, 5)", x.restart(1, 5), 1);
+        due.is("loop(1, 1)", x.loop(1, 1), 71);
     }
 
     private static void loopOfTheLongest(Due due) {
