@@ -13,9 +13,11 @@ public final class FaceTest {
     /** In the order of their texts, so that each run of the test makes the same calls. */
     private static final Method[] CALLS = callsInOrder();
 
-    public static void main(String[] args) throws IllegalAccessException {
+    public static void main(String[] args) throws ReflectiveOperationException {
         Due due = new Due();
         faceIsTheDocuments(due);
+        callsAreTheDocuments(due);
+        noneIsTheDocuments(due);
         staticsAreFinal(due);
         extremesNeverThrow(due);
         due.end();
@@ -35,11 +37,38 @@ public final class FaceTest {
             (Modifier.isPublic(method.getModifiers()) ? open : hidden).add(method.getName());
             due.holds(method + " has at most seven parameters", method.getParameterCount() <= 7);
         }
-        Set<String> wanted = Set.of("level", "exit", "abend", "order", "cancel", "restart", "guard", "write", "free",
-            "dump", "loop", "suppress", "count", "region", "told");
-        due.holds("public methods " + open, open.equals(wanted));
         hidden.retainAll(open);
         due.holds("private methods named like public ones " + hidden, hidden.isEmpty());
+    }
+
+    private static void callsAreTheDocuments(Due due) {
+        Set<String> wanted = Set.of(
+            "public int AbendRows.level(int)",
+            "public int AbendRows.exit(int,int,boolean)",
+            "public int AbendRows.abend(int,int)",
+            "public int AbendRows.order(int)",
+            "public int AbendRows.cancel(int)",
+            "public int AbendRows.restart(int,int)",
+            "public int AbendRows.guard(int,int)",
+            "public int AbendRows.write(int,int)",
+            "public int AbendRows.free(int)",
+            "public int AbendRows.dump(int,int,int)",
+            "public int AbendRows.loop(int,long)",
+            "public int AbendRows.suppress(int,boolean)",
+            "public int AbendRows.count(int)",
+            "public int AbendRows.region(int)",
+            "public int AbendRows.told(int,int)");
+        Set<String> shown = new TreeSet<>();
+        for (Method call : CALLS) {
+            shown.add(call.toString());
+        }
+        due.holds("public methods " + shown, shown.equals(wanted));
+    }
+
+    private static void noneIsTheDocuments(Due due) throws ReflectiveOperationException {
+        Field none = AbendRows.class.getDeclaredField("NONE");
+        due.holds(none + " is as the document's", none.toString().equals("public static final int AbendRows.NONE"));
+        due.is("NONE", none.getInt(null), -1);
     }
 
     private static void staticsAreFinal(Due due) {
